@@ -398,7 +398,7 @@ public final class AgreedTalks {
         /** The bits of paired leave out LINES; an int has room for them, as they are 20 at most. */
         private int firstLike(Line line, int paired) {
             for (int i = 0; i < lines.size(); i++) {
-                if ((paired & 1 << i) == 0 && lines.get(i).isLike(line)) {
+                if ((paired & (1 << i)) == 0 && lines.get(i).isLike(line)) {
                     return i;
                 }
             }
@@ -413,7 +413,7 @@ public final class AgreedTalks {
 
         void append(int number) {
             for (int shift = 24; shift >= 0 && length < MOST_BYTES; shift -= 8) {
-                bytes[length] = number >>> shift & 255;
+                bytes[length] = (number >>> shift) & 255;
                 length++;
             }
         }
@@ -668,7 +668,7 @@ public final class AgreedTalks {
         private boolean isAhead(int deed, int that) {
             int day = lastDayOf(deed);
             int thatDay = lastDayOf(that);
-            return day < thatDay || day == thatDay && deed < that;
+            return day < thatDay || (day == thatDay && deed < that);
         }
     }
 
