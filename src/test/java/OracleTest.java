@@ -7,6 +7,8 @@ import java.util.Random;
 public final class OracleTest {
     private static final int RUNS = 400;
     private static final int CALLS = 512;
+    /** No step makes more calls than these: 15 of feed, and end, record, fault and status. */
+    private static final int CALLS_OF_STEP = 19;
     private static final int[] ODD = {-1, -2, 40, 12, 30, 1000, Integer.MIN_VALUE, Integer.MAX_VALUE};
 
     private final Random random;
@@ -33,7 +35,11 @@ public final class OracleTest {
         for (int seed = 0; seed < RUNS && Talk.wrongs() == 0; seed++) {
             OracleTest run = new OracleTest(seed);
             while (run.calls < CALLS && Talk.wrongs() == 0) {
-                run.step();
+                if (run.calls + CALLS_OF_STEP <= CALLS) {
+                    run.step();
+                } else {
+                    run.ask(run.random.nextInt(15));
+                }
             }
             if (Talk.wrongs() != 0) {
                 System.out.println("in the run of seed " + seed + ", call " + run.calls);

@@ -162,129 +162,104 @@ public final class PromisesTest {
         due("records", x.count(1), 40);
     }
 
-    private static void sound(String text, int lines) {
-        AgreedTalks x = new AgreedTalks();
-        x.meeting(0);
-        due("record of '" + text + "'", Talk.record(x, 0, text), 0);
-        due("fault of '" + text + "'", x.fault(), -1);
-        due("lines of '" + text + "'", x.of(0, 0), lines);
-    }
-
-    private static void wrong(String text, int place) {
-        AgreedTalks x = new AgreedTalks();
-        x.meeting(0);
-        due("record of '" + text + "'", Talk.record(x, 0, text), -6);
-        due("fault of '" + text + "'", x.fault(), place);
-        due("status of '" + text + "'", x.status(), -6);
-        due("records of '" + text + "'", x.count(1), 0);
-    }
-
     private static void texts() {
-        sound("a asks l for 0", 1);
-        sound("a asks a for 39 by 999", 1);
-        sound("l takes 39", 1);
-        sound("b takes 0 by 0", 1);
-        sound("c drops 5;d does 6", 2);
-        sound("e says 7;f says 8 as 9;g says 8 as 9 and 10", 3);
-        sound("h denies 11;open 12;settled 13", 3);
-        sound("   a   takes   3   by   4   ;   open   5   ", 2);
-        sound("a takes3by4;open5;settled6", 3);
-        sound("i says1as2and3", 1);
-        sound("a takes 0000000000000000000000000000000039 by 000999", 1);
-        sound("k says 1 as 1", 1);
-        sound("a says 1 as 2 and 2 and 2 and 2 and 2 and 2", 1);
+        Talk.sound("a asks l for 0", 1);
+        Talk.sound("a asks a for 39 by 999", 1);
+        Talk.sound("l takes 39", 1);
+        Talk.sound("b takes 0 by 0", 1);
+        Talk.sound("c drops 5;d does 6", 2);
+        Talk.sound("e says 7;f says 8 as 9;g says 8 as 9 and 10", 3);
+        Talk.sound("h denies 11;open 12;settled 13", 3);
+        Talk.sound("   a   takes   3   by   4   ;   open   5   ", 2);
+        Talk.sound("a takes3by4;open5;settled6", 3);
+        Talk.sound("i says1as2and3", 1);
+        Talk.sound("a takes 0000000000000000000000000000000039 by 000999", 1);
+        Talk.sound("k says 1 as 1", 1);
+        Talk.sound("a says 1 as 2 and 2 and 2 and 2 and 2 and 2", 1);
     }
 
     private static void faults() {
-        wrong("m takes 1", 0);
-        wrong("  z takes 1", 2);
-        wrong("aa takes 1", 0);
-        wrong("A takes 1", 0);
-        wrong("atakes 1", 0);
-        wrong("1", 0);
-        wrong(";", 0);
-        wrong("openx 1", 0);
-        wrong("op en 1", 0);
-        wrong("a", 1);
-        wrong("a   ", 4);
-        wrong("a open 1", 2);
-        wrong("a settled 1", 2);
-        wrong("a take 1", 2);
-        wrong("a takess 1", 2);
-        wrong("a asks", 6);
-        wrong("a asks m for 3", 7);
-        wrong("a asks b 3", 9);
-        wrong("a asks b for", 12);
-        wrong("a asks b for 40", 13);
-        wrong("a asks b for 3 by", 17);
-        wrong("a asks b for 3 by 1000", 18);
-        wrong("a asks b for 3 as 4", 15);
-        wrong("a takes 40", 8);
-        wrong("a takes -1", 8);
-        wrong("a takes b", 8);
-        wrong("a takes 1 2", 10);
-        wrong("a takes 1 by by", 13);
-        wrong("a takes 1 by 4294967296", 13);
-        wrong("a takes 4294967297", 8);
-        wrong("a takes 18446744073709551617", 8);
-        wrong("a drops 1 by 3", 10);
-        wrong("a does 1 x", 9);
-        wrong("a says 40", 7);
-        wrong("a says 1 as", 11);
-        wrong("a says 1 as 40", 12);
-        wrong("a says 1 and 2", 9);
-        wrong("a says 1 as 2 as 3", 14);
-        wrong("a says 1 as 2 and", 17);
-        wrong("a says 1 as 2 and b", 18);
-        wrong("a says 1 by 2", 9);
-        wrong("a denies 1 as 2", 11);
-        wrong("open", 4);
-        wrong("open a", 5);
-        wrong("open 40", 5);
-        wrong("settled 40", 8);
-        wrong("open 1;", 7);
-        wrong("open 1;   ", 10);
-        wrong("open 1;;open 2", 7);
-        wrong("open 1 open 2", 7);
-        wrong("open 1,open 2", 6);
-        wrong("open\t1", 4);
-        wrong("open\u00001", 4);
-        wrong("open 1\u00a0", 6);
-        wrong("open 1;open 2;n takes 3;open", 14);
-    }
-
-    private static String lines(int many, String line) {
-        StringBuilder text = new StringBuilder();
-        for (int i = 0; i < many; i++) {
-            text.append(i == 0 ? "" : ";").append(line);
-        }
-        return text.toString();
+        Talk.wrong("m takes 1", 0);
+        Talk.wrong("  z takes 1", 2);
+        Talk.wrong("aa takes 1", 0);
+        Talk.wrong("A takes 1", 0);
+        Talk.wrong("atakes 1", 0);
+        Talk.wrong("1", 0);
+        Talk.wrong(";", 0);
+        Talk.wrong("openx 1", 0);
+        Talk.wrong("op en 1", 0);
+        Talk.wrong("a", 1);
+        Talk.wrong("a   ", 4);
+        Talk.wrong("a open 1", 2);
+        Talk.wrong("a settled 1", 2);
+        Talk.wrong("a take 1", 2);
+        Talk.wrong("a takess 1", 2);
+        Talk.wrong("a asks", 6);
+        Talk.wrong("a asks m for 3", 7);
+        Talk.wrong("a asks b 3", 9);
+        Talk.wrong("a asks b for", 12);
+        Talk.wrong("a asks b for 40", 13);
+        Talk.wrong("a asks b for 3 by", 17);
+        Talk.wrong("a asks b for 3 by 1000", 18);
+        Talk.wrong("a asks b for 3 as 4", 15);
+        Talk.wrong("a takes 40", 8);
+        Talk.wrong("a takes -1", 8);
+        Talk.wrong("a takes b", 8);
+        Talk.wrong("a takes 1 2", 10);
+        Talk.wrong("a takes 1 by by", 13);
+        Talk.wrong("a takes 1 by 4294967296", 13);
+        Talk.wrong("a takes 4294967297", 8);
+        Talk.wrong("a takes 18446744073709551617", 8);
+        Talk.wrong("a drops 1 by 3", 10);
+        Talk.wrong("a does 1 x", 9);
+        Talk.wrong("a says 40", 7);
+        Talk.wrong("a says 1 as", 11);
+        Talk.wrong("a says 1 as 40", 12);
+        Talk.wrong("a says 1 and 2", 9);
+        Talk.wrong("a says 1 as 2 as 3", 14);
+        Talk.wrong("a says 1 as 2 and", 17);
+        Talk.wrong("a says 1 as 2 and b", 18);
+        Talk.wrong("a says 1 by 2", 9);
+        Talk.wrong("a denies 1 as 2", 11);
+        Talk.wrong("open", 4);
+        Talk.wrong("open a", 5);
+        Talk.wrong("open 40", 5);
+        Talk.wrong("settled 40", 8);
+        Talk.wrong("open 1;", 7);
+        Talk.wrong("open 1;   ", 10);
+        Talk.wrong("open 1;;open 2", 7);
+        Talk.wrong("open 1 open 2", 7);
+        Talk.wrong("open 1,open 2", 6);
+        Talk.wrong("open\t1", 4);
+        Talk.wrong("open\u00001", 4);
+        Talk.wrong("open 1\u00a0", 6);
+        Talk.wrong("open 1;open 2;n takes 3;open", 14);
     }
 
     private static void limitsOfTexts() {
-        String twenty = lines(20, "open 1");
-        sound(twenty, 20);
-        sound(twenty + " ", 20);
-        wrong(twenty + ";open 2", 140);
-        wrong(twenty + ";  open 2", 142);
-        wrong(twenty + ";  ?", 142);
-        wrong(twenty + ";", 140);
-        wrong(twenty + ";  ", 142);
-        wrong(twenty + " x", 140);
+        String twenty = Talk.lines(20, "open 1");
+        Talk.sound(twenty, 20);
+        Talk.sound(twenty + " ", 20);
+        Talk.wrong(twenty + ";open 2", 140);
+        Talk.wrong(twenty + ";  open 2", 142);
+        Talk.wrong(twenty + ";  ?", 142);
+        Talk.wrong(twenty + ";", 140);
+        Talk.wrong(twenty + ";  ", 142);
+        Talk.wrong(twenty + " x", 140);
         String six = "a says 1 as 1 and 2 and 3 and 4 and 5 and 6";
-        sound(six, 1);
-        sound(six + ";open 3", 2);
-        wrong(six + " and 7", 44);
-        wrong(six + " and", 44);
-        wrong(six + " and x", 44);
-        wrong(six + " 7", 44);
-        wrong("a says 1 as 1 and 1 and 1 and 1 and 1 and 1 and 1", 44);
+        Talk.sound(six, 1);
+        Talk.sound(six + ";open 3", 2);
+        Talk.wrong(six + " and 7", 44);
+        Talk.wrong(six + " and", 44);
+        Talk.wrong(six + " and x", 44);
+        Talk.wrong(six + " 7", 44);
+        Talk.wrong("a says 1 as 1 and 1 and 1 and 1 and 1 and 1 and 1", 44);
         String longest = twenty + " ".repeat(300 - twenty.length());
-        sound(longest, 20);
-        wrong(longest.substring(0, 299) + "!", 299);
-        wrong(" ".repeat(300), 300);
-        wrong("a takes " + "9".repeat(292), 8);
-        sound("a takes " + "0".repeat(291) + "7", 1);
+        Talk.sound(longest, 20);
+        Talk.wrong(longest.substring(0, 299) + "!", 299);
+        Talk.wrong(" ".repeat(300), 300);
+        Talk.wrong("a takes " + "9".repeat(292), 8);
+        Talk.sound("a takes " + "0".repeat(291) + "7", 1);
     }
 
     private static void faultStays() {
@@ -487,28 +462,17 @@ public final class PromisesTest {
         due("turned back", x.changes(0, 1, 2), 2);
     }
 
-    private static void theirsAre(AgreedTalks x, int person, int meeting, int... want) {
-        due("theirs(" + person + ", " + meeting + ", -1)", x.theirs(person, meeting, -1), want.length);
-        for (int i = 0; i < want.length; i++) {
-            due("theirs(" + person + ", " + meeting + ", " + i + ")", x.theirs(person, meeting, i), want[i]);
-        }
-        due("theirs past the last", x.theirs(person, meeting, want.length), -1);
-        due("theirs(.., -2)", x.theirs(person, meeting, -2), -1);
-        due("theirs(.., MIN)", x.theirs(person, meeting, Integer.MIN_VALUE), -1);
-        due("theirs(.., MAX)", x.theirs(person, meeting, Integer.MAX_VALUE), -1);
-    }
-
     private static void theirs() {
         AgreedTalks x = Talk.talks(
             "a takes 9;a takes 2;a takes 5 by 30;a takes 1 by 30;a takes 39 by 0;a takes 0 by 999;b takes 7",
             "a does 5;b takes 2;a drops 1;a takes 9 by 4",
             "a takes 5;a drops 39");
-        theirsAre(x, 0, 0, 39, 1, 5, 0, 2, 9);
-        theirsAre(x, 1, 0, 7);
-        theirsAre(x, 2, 0);
-        theirsAre(x, 0, 1, 39, 9, 0);
-        theirsAre(x, 1, 1, 2, 7);
-        theirsAre(x, 0, 2, 9, 0, 5);
+        Talk.theirsAre(x, 0, 0, 39, 1, 5, 0, 2, 9);
+        Talk.theirsAre(x, 1, 0, 7);
+        Talk.theirsAre(x, 2, 0);
+        Talk.theirsAre(x, 0, 1, 39, 9, 0);
+        Talk.theirsAre(x, 1, 1, 2, 7);
+        Talk.theirsAre(x, 0, 2, 9, 0, 5);
     }
 
     private static void late() {
@@ -522,39 +486,29 @@ public final class PromisesTest {
         due("asked is not late", x.late(3, 3), 0);
     }
 
-    private static void quarrelsAre(String first, String second, int want) {
-        AgreedTalks x = Talk.talks(first);
-        Talk.record(x, 0, second);
-        due("quarrels of '" + second + "' with '" + first + "'", x.quarrels(1), want);
-        due("quarrels of the one that counts", x.quarrels(0), 0);
-        AgreedTalks y = Talk.talks(second);
-        Talk.record(y, 0, first);
-        due("quarrels of '" + first + "' with '" + second + "'", y.quarrels(1), want);
-    }
-
     private static void quarrels() {
-        quarrelsAre("a takes 1", "a takes 1", 0);
-        quarrelsAre("a takes 1;open 2", "open 2;a takes 1", 0);
-        quarrelsAre("a takes 1;a takes 1;a takes 1", "a takes 1", 2);
-        quarrelsAre("a takes 1", "a takes 1 by 0", 2);
-        quarrelsAre("a takes 1 by 3", "a takes 01  by 003", 0);
-        quarrelsAre("a takes 1 by 3", "a takes 1 by 4", 2);
-        quarrelsAre("a takes 1", "b takes 1", 2);
-        quarrelsAre("a takes 1", "a drops 1", 2);
-        quarrelsAre("a drops 1", "a does 1", 2);
-        quarrelsAre("a asks b for 1", "a asks c for 1", 2);
-        quarrelsAre("a asks b for 1 by 2", "a asks b for 1", 2);
-        quarrelsAre("a asks b for 1", "b asks a for 1", 2);
-        quarrelsAre("a says 1", "a denies 1", 2);
-        quarrelsAre("a says 1", "a says 1 as 0", 2);
-        quarrelsAre("a says 1 as 2 and 3", "a says 1 as 3 and 2", 0);
-        quarrelsAre("a says 1 as 2 and 2", "a says 1 as 2", 0);
-        quarrelsAre("a says 1 as 2 and 3", "a says 1 as 2", 2);
-        quarrelsAre("a says 1 as 2 and 39", "a says 1 as 2 and 7", 2);
-        quarrelsAre("open 1", "settled 1", 2);
-        quarrelsAre("open 1", "a says 1", 2);
-        quarrelsAre(lines(20, "open 1"), lines(20, "open 2"), 40);
-        quarrelsAre(lines(20, "open 1"), lines(7, "open 1"), 13);
+        Talk.quarrelsAre("a takes 1", "a takes 1", 0);
+        Talk.quarrelsAre("a takes 1;open 2", "open 2;a takes 1", 0);
+        Talk.quarrelsAre("a takes 1;a takes 1;a takes 1", "a takes 1", 2);
+        Talk.quarrelsAre("a takes 1", "a takes 1 by 0", 2);
+        Talk.quarrelsAre("a takes 1 by 3", "a takes 01  by 003", 0);
+        Talk.quarrelsAre("a takes 1 by 3", "a takes 1 by 4", 2);
+        Talk.quarrelsAre("a takes 1", "b takes 1", 2);
+        Talk.quarrelsAre("a takes 1", "a drops 1", 2);
+        Talk.quarrelsAre("a drops 1", "a does 1", 2);
+        Talk.quarrelsAre("a asks b for 1", "a asks c for 1", 2);
+        Talk.quarrelsAre("a asks b for 1 by 2", "a asks b for 1", 2);
+        Talk.quarrelsAre("a asks b for 1", "b asks a for 1", 2);
+        Talk.quarrelsAre("a says 1", "a denies 1", 2);
+        Talk.quarrelsAre("a says 1", "a says 1 as 0", 2);
+        Talk.quarrelsAre("a says 1 as 2 and 3", "a says 1 as 3 and 2", 0);
+        Talk.quarrelsAre("a says 1 as 2 and 2", "a says 1 as 2", 0);
+        Talk.quarrelsAre("a says 1 as 2 and 3", "a says 1 as 2", 2);
+        Talk.quarrelsAre("a says 1 as 2 and 39", "a says 1 as 2 and 7", 2);
+        Talk.quarrelsAre("open 1", "settled 1", 2);
+        Talk.quarrelsAre("open 1", "a says 1", 2);
+        Talk.quarrelsAre(Talk.lines(20, "open 1"), Talk.lines(20, "open 2"), 40);
+        Talk.quarrelsAre(Talk.lines(20, "open 1"), Talk.lines(7, "open 1"), 13);
         AgreedTalks x = Talk.talks("open 1", "open 2");
         Talk.record(x, 1, "open 1");
         due("with the one of its own meeting", x.quarrels(2), 2);
